@@ -1,54 +1,71 @@
 import java.util.Random;
 
-/** All promises: chance runs of 512 calls, each answer and all registers held against the model. */
+/** All promises: chance runs of calls, each answer and all registers held against the model. */
 final class ModelTest {
-    private static final int RUNS = 60;
-    private static final int CALLS = 512;
+    private static final int RUNS = 6000;
+    private static final int MOST_CALLS = 512;
+    private static final int DEAREST_STEP = 40;
+    private static final int LAST_LOOK = 12 * 16;
 
     private final Random random;
     private final NoiseRing ring = new NoiseRing();
+    private final int[] used = new int[4];
     private long[][] r = new long[12][16];
     private int kind = 0;
+    private int calls = 0;
 
     private ModelTest(int seed) {
         random = new Random(seed);
+        for (int k = 0; k < used.length; k++) {
+            used[k] = random.nextInt(12);
+        }
     }
 
     public static void main(String[] args) {
         for (int run = 0; run < RUNS; run++) {
-            new ModelTest(run).run(run);
+            new ModelTest(run).run("run " + run, run % 2);
         }
         Check.end("ModelTest");
     }
 
-    private void run(int run) {
-        if (run % 2 == 1) {
-            kind = 1;
-            ring.begin(1);
+    private void run(String what, int firstKind) {
+        if (firstKind == 1) {
+            begin(what, 1);
         }
-        for (int call = 0; call < CALLS; call++) {
-            String what = "run " + run + ", call " + call;
-            step(what);
-            for (int k = 0; k < 12; k++) {
-                for (int i = 0; i < 16; i++) {
-                    Check.same(what + ", register " + k + ", coefficient " + i, ring.get(k, i), r[k][i]);
-                }
-            }
+        setAll(used[0]);
+        setAll(used[1]);
+        while (calls + DEAREST_STEP + LAST_LOOK <= MOST_CALLS) {
+            int to = oneOfUsed();
+            step(what + ", call " + calls, to, oneOfUsed(), oneOfUsed());
+            look(what + ", call " + calls, to);
+        }
+        for (int k = 0; k < 12; k++) {
+            look(what + " at last", k);
+        }
+        Check.yes("the calls are within what is promised", calls <= MOST_CALLS);
+    }
+
+    private int oneOfUsed() {
+        return used[random.nextInt(used.length)];
+    }
+
+    private void look(String what, int k) {
+        calls += 16;
+        for (int i = 0; i < 16; i++) {
+            Check.same(what + ", register " + k + ", coefficient " + i, ring.get(k, i), r[k][i]);
         }
     }
 
-    private void step(String what) {
-        int to = random.nextInt(12);
-        int a = random.nextInt(12);
-        int b = random.nextInt(12);
+    private void step(String what, int to, int a, int b) {
+        calls++;
         switch (random.nextInt(14)) {
-            case 0: case 1: case 2:
+            case 0:
                 setAll(to);
                 break;
-            case 3: case 4:
+            case 1: case 2: case 3:
                 join(what + " join", to, random.nextInt(3), a, b);
                 break;
-            case 5: case 6:
+            case 4: case 5: case 6:
                 round(what + " round", to, random.nextInt(4), a, 1 + random.nextInt(kind == 0 ? 11 : 22));
                 break;
             case 7:
@@ -70,7 +87,8 @@ final class ModelTest {
                 notUnit(what, to);
                 break;
             default:
-                begin(what);
+                begin(what, random.nextInt(2));
+                setAll(to);
                 break;
         }
     }
@@ -92,6 +110,7 @@ final class ModelTest {
     }
 
     private void setAll(int to) {
+        calls += 16;
         for (int i = 0; i < 16; i++) {
             int v = random.nextInt(3) == 0 ? random.nextInt(5) - 2 : random.nextInt();
             Check.same("set", ring.set(to, i, v), r[to][i]);
@@ -175,6 +194,7 @@ final class ModelTest {
     }
 
     private void ask(String what, int a, int b) {
+        calls += 22;
         Check.same(what + " size", ring.size(a), greatest(r[a]));
         long far = 0;
         int empty = 0;
@@ -202,15 +222,14 @@ final class ModelTest {
         }
         r[to][0] = Math.floorMod(r[to][0] - sum, (long) q());
         ring.set(to, 0, (int) r[to][0]);
+        calls++;
         Check.no(what + " unit", ring.unit(to));
         Check.no(what + " unit of the model", Model.unit(kind, r[to]));
     }
 
-    private void begin(String what) {
-        if (random.nextInt(4) != 0) {
-            return;
-        }
-        kind = random.nextInt(2);
+    private void begin(String what, int newKind) {
+        kind = newKind;
+        calls++;
         r = new long[12][16];
         Check.same(what + " begin", ring.begin(kind), q());
     }

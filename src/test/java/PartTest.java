@@ -85,9 +85,9 @@ final class PartTest {
 
     /** What hints are for: PART of the sum, found from a alone, as long as b is at most ALPHA / 2 in size. */
     private static void hintsMend() {
-        NoiseRing x = Check.ring(1);
         int q = Check.Q[1];
         for (int round = 0; round < 50; round++) {
+            NoiseRing x = Check.ring(1);
             for (int i = 0; i < 16; i++) {
                 x.set(0, i, (int) ((i + 1) * 7919L * 7907 * (round + 1) % q));
                 x.set(1, i, (int) ((i + 3) * 104729L * (round + 1) % 190464) - 95232 + 1);

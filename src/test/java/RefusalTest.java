@@ -3,34 +3,41 @@ final class RefusalTest {
     private static final int[] NO_REGISTERS = {-1, 12, 13, Integer.MIN_VALUE, Integer.MAX_VALUE};
     private static final int[] NO_PLACES = {-1, 16, 17, Integer.MIN_VALUE, Integer.MAX_VALUE};
 
+    private static int kind;
     private static NoiseRing x;
-    private static String before;
 
     public static void main(String[] args) {
-        for (int kind = 0; kind < 2; kind++) {
-            x = Check.ring(kind);
-            for (int r = 0; r < 12; r += 2) {
-                for (int i = 0; i < 16; i++) {
-                    x.set(r, i, (r + 3) * (i + 5) * 7717);
-                }
-            }
-            before = Check.state(x);
+        for (int each = 0; each < 2; each++) {
+            kind = each;
             registers();
             places();
             ops();
-            widths(kind);
-            alphas(kind);
+            widths();
+            alphas();
             etas();
         }
         Check.end("RefusalTest");
     }
 
+    /** A new object for each refusal, since reading its whole state twice takes most of its 512 calls. */
+    private static String renew() {
+        x = Check.ring(kind);
+        for (int r = 0; r < 12; r += 2) {
+            for (int i = 0; i < 16; i++) {
+                x.set(r, i, (r + 3) * (i + 5) * 7717);
+            }
+        }
+        return Check.state(x);
+    }
+
     private static void noSuch(String what, Check.Call call) {
+        String before = renew();
         Check.noSuch(what, call);
         Check.yes(what + " changes nothing", before.equals(Check.state(x)));
     }
 
     private static void illegal(String what, Check.Call call) {
+        String before = renew();
         Check.illegal(what, call);
         Check.yes(what + " changes nothing", before.equals(Check.state(x)));
     }
@@ -83,7 +90,7 @@ final class RefusalTest {
         }
     }
 
-    private static void widths(int kind) {
+    private static void widths() {
         int most = kind == 0 ? 11 : 22;
         for (int op = 0; op < 4; op++) {
             int each = op;
@@ -95,7 +102,7 @@ final class RefusalTest {
         Check.same("the most bits", y.round(0, 0, 1, most), 0);
     }
 
-    private static void alphas(int kind) {
+    private static void alphas() {
         int q = Check.Q[kind];
         int[] wrong = {0, -1, 1, 3, 13, q, 2 * (q - 1), 1 - q, -2, 10, q - 2, 16384,
             Integer.MIN_VALUE, Integer.MAX_VALUE};
